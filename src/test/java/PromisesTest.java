@@ -210,6 +210,10 @@ public final class PromisesTest {
         int l = addPiece(sums, "#", "###");
         Check.due("6: first L", "0 1 2 3 ", placementOf(sums, l, 0));
         Check.due("6: last L", "2 3 4 5 ", placementOf(sums, l, 3));
+        sums.cell(2, 1, false);
+        Check.due("6: five are left", 5, sums.placements(domino));
+        Check.due("6: the last of them", "3 4 ", placementOf(sums, domino, 4));
+        Check.due("6: none behind it, though there was one", -1, sums.placement(domino, 5, 0));
         ColourSums big = shapeOf("######", "######", "######", "######", "######", "######");
         int one = addPiece(big, "#");
         Check.due("6: a cell over bit 31", 35, big.placement(one, 35, 0));
@@ -234,6 +238,11 @@ public final class PromisesTest {
         Check.due("7: 6 for 4", false, four.sizes());
         addPiece(four, "####");
         Check.due("7: 4 for 4, though it has no placement", true, four.sizes());
+        ColourSums ones = shapeOf("###");
+        addPiece(ones, "##");
+        Check.due("7: 2 for 3", false, ones.sizes());
+        addPiece(ones, "....", "...#");
+        Check.due("7: 2 and 1 for 3", true, ones.sizes());
         ColourSums full = shapeOf("######", "######", "######", "######", "######", "######");
         addPiece(full, "###", "##");
         Check.due("7: 5 for 36", false, full.sizes());
