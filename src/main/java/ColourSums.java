@@ -465,7 +465,7 @@ public final class ColourSums {
             work[cells] = due;
             for (int c = 0; c < cells; c++) {
                 if (leads[c] && work[c] != 0) {
-                    subtract(work, rows[c], work[c]);
+                    subtractRow(c, work[c], work);
                 }
             }
             int lead = lastCellOfWork();
@@ -489,19 +489,22 @@ public final class ColourSums {
             for (int c = 0; c <= cells; c++) {
                 row[c] = work[c] * factor % modulus;
             }
+            leads[lead] = true;
             for (int c = lead + 1; c < cells; c++) {
                 if (leads[c] && rows[c][lead] != 0) {
-                    subtract(rows[c], row, rows[c][lead]);
+                    subtractRow(lead, rows[c][lead], rows[c]);
                 }
             }
-            leads[lead] = true;
         }
 
-        private void subtract(int[] from, int[] row, int times) {
+        // Behind its leading cell a row holds nothing but what is due.
+        private void subtractRow(int lead, int times, int[] from) {
+            int[] row = rows[lead];
             int factor = modulus - times;
-            for (int c = 0; c <= cells; c++) {
+            for (int c = 0; c <= lead; c++) {
                 from[c] = (from[c] + factor * row[c]) % modulus;
             }
+            from[cells] = (from[cells] + factor * row[cells]) % modulus;
         }
 
         private int lastCellOfWork() {
