@@ -16,7 +16,7 @@ public final class RoomTest {
         long used = threads.getCurrentThreadAllocatedBytes();
         Check.due("a new object's room is small", true, made - before <= MOST_BYTES_OF_AN_OBJECT);
         Check.due("its calls make nothing", true, used - made <= MOST_BYTES_OF_ITS_CALLS);
-        System.out.println((made - before) + " bytes made, " + (used - made) + " more by 500 calls");
+        System.out.println((made - before) + " bytes made, " + (used - made) + " more by its calls");
         Check.end();
     }
 
