@@ -25,7 +25,7 @@ final class Check {
         try {
             got = String.valueOf(call.answer());
         } catch (RuntimeException e) {
-            got = "throws." + e.getClass().getSimpleName();
+            got = "throws." + e.getClass().getSimpleName() + (isFromMachine(e) ? " by the machine" : "");
             if (e.getClass() == want && !isFromMachine(e)) {
                 return;
             }
@@ -34,9 +34,32 @@ final class Check {
         System.out.println(what + " answered " + got + ", due is throws." + want.getSimpleName());
     }
 
-    // The machine's own text for an index: "Index 5 out of bounds for length 4".
+    static void dueNoIndex(String what, Call call) {
+        dueThrow(what, ArrayIndexOutOfBoundsException.class, call);
+    }
+
+    static void dueIllegal(String what, Call call) {
+        dueThrow(what, IllegalArgumentException.class, call);
+    }
+
+    // The machine's own text for an index is "Index 5 out of bounds for length 4", and none at all where it has
+    // thrown often; the class's own exceptions all have a text.
     static boolean isFromMachine(RuntimeException e) {
-        return e.getMessage() != null && e.getMessage().startsWith("Index ");
+        return e.getMessage() == null || e.getMessage().startsWith("Index ");
+    }
+
+    /** A test of one sentence of the document: it is told when the sentence does not hold. */
+    static void sentence(String words, Runnable test) {
+        int before = wrong;
+        try {
+            test.run();
+        } catch (RuntimeException e) {
+            wrong++;
+            System.out.println("a call threw " + e);
+        }
+        if (wrong != before) {
+            System.out.println("DOES NOT HOLD: " + words);
+        }
     }
 
     static void end() {

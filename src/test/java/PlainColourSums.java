@@ -21,14 +21,14 @@ final class PlainColourSums {
 
     private int needCell(int x, int y) {
         if (x < 0 || y < 0 || x >= w || y >= h) {
-            throw new ArrayIndexOutOfBoundsException();
+            throw new ArrayIndexOutOfBoundsException("no such one");
         }
         return w * y + x;
     }
 
     private Set<Integer> needPiece(int piece) {
         if (piece < 0 || piece >= pieces.size()) {
-            throw new ArrayIndexOutOfBoundsException();
+            throw new ArrayIndexOutOfBoundsException("no such one");
         }
         return pieces.get(piece);
     }
@@ -54,7 +54,7 @@ final class PlainColourSums {
     boolean square(int piece, int x, int y) {
         Set<Integer> squares = needPiece(piece);
         if (x < 0 || x > 3 || y < 0 || y > 3) {
-            throw new IllegalArgumentException();
+            throw new IllegalArgumentException("no such square");
         }
         if (squares.size() == 6 || !squares.add(10 * y + x)) {
             return false;

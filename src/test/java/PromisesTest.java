@@ -31,63 +31,6 @@ public final class PromisesTest {
         Check.end();
     }
 
-    // Rows of text: '#' is of the shape.
-    private static ColourSums shapeOf(String... rows) {
-        ColourSums sums = new ColourSums(rows[0].length(), rows.length);
-        for (int y = 0; y < rows.length; y++) {
-            for (int x = 0; x < rows[y].length(); x++) {
-                if (rows[y].charAt(x) == '#') {
-                    sums.cell(x, y, true);
-                }
-            }
-        }
-        return sums;
-    }
-
-    private static int addPiece(ColourSums sums, String... rows) {
-        int piece = sums.piece();
-        for (int y = 0; y < rows.length; y++) {
-            for (int x = 0; x < rows[y].length(); x++) {
-                if (rows[y].charAt(x) == '#') {
-                    sums.square(piece, x, y);
-                }
-            }
-        }
-        return piece;
-    }
-
-    private static String textOf(ColourSums sums) {
-        StringBuilder text = new StringBuilder();
-        for (int i = 0; i < 50 && sums.text(i) >= 0; i++) {
-            text.append((char) sums.text(i));
-        }
-        return text.toString();
-    }
-
-    private static String wordOf(ColourSums sums) {
-        StringBuilder word = new StringBuilder();
-        for (int i = 0; i < 100 && sums.border(i) >= 0; i++) {
-            word.append(sums.border(i));
-        }
-        return word.toString();
-    }
-
-    private static String runsOf(ColourSums sums, int m) {
-        StringBuilder runs = new StringBuilder();
-        for (int k = 0; k < sums.runs(m); k++) {
-            runs.append(sums.run(m, k)).append(' ');
-        }
-        return runs.toString();
-    }
-
-    private static String placementOf(ColourSums sums, int piece, int k) {
-        StringBuilder cells = new StringBuilder();
-        for (int i = 0; i < 10 && sums.placement(piece, k, i) >= 0; i++) {
-            cells.append(sums.placement(piece, k, i)).append(' ');
-        }
-        return cells.toString();
-    }
-
     private static void promise1NewObject() {
         int[][] sizes = {{1, 1, 1, 1}, {6, 6, 6, 6}, {3, 5, 3, 5}, {0, 2, 1, 2}, {2, 0, 2, 1}, {-7, -1, 1, 1},
             {7, 3, 6, 3}, {3, 7, 3, 6}, {Integer.MAX_VALUE, Integer.MIN_VALUE, 6, 1}};
@@ -120,7 +63,7 @@ public final class PromisesTest {
         }
         Check.dueThrow("2: x is the width", NO_INDEX, () -> sums.cell(3, 0, true));
         Check.dueThrow("2: y is the height", NO_INDEX, () -> sums.cell(0, 2, true));
-        Check.due("2: refused calls did nothing", "0123", wordOf(sums));
+        Check.due("2: refused calls did nothing", "0123", Scene.wordOf(sums));
         ColourSums all = new ColourSums(6, 6);
         for (int c = 0; c < 36; c++) {
             Check.due("2: cell " + c + " of 36", true, all.cell(c % 6, c / 6, true));
@@ -155,7 +98,7 @@ public final class PromisesTest {
             Check.dueThrow("4: piece and x " + wrong, NO_INDEX, () -> sums.square(wrong, wrong, 0));
         }
         Check.dueThrow("4: the next piece", NO_INDEX, () -> sums.square(1, 0, 0));
-        ColourSums other = shapeOf("###");
+        ColourSums other = Scene.shapeOf("###");
         int domino = other.piece();
         other.square(domino, 2, 3);
         Check.due("4: placements of one square", 3, other.placements(domino));
@@ -166,19 +109,19 @@ public final class PromisesTest {
     }
 
     private static void promise5Placements() {
-        ColourSums full = shapeOf("######", "######", "######", "######", "######", "######");
-        Check.due("5: one square", 36, full.placements(addPiece(full, "...", ".#.")));
-        Check.due("5: domino", 60, full.placements(addPiece(full, "#", "#")));
-        Check.due("5: L of four", 160, full.placements(addPiece(full, "#..", "###")));
-        Check.due("5: Z of four", 80, full.placements(addPiece(full, "##", ".##")));
-        Check.due("5: box of four, one symmetry", 25, full.placements(addPiece(full, "....", "..##", "..##")));
+        ColourSums full = Scene.shapeOf(Scene.FULL);
+        Check.due("5: one square", 36, full.placements(Scene.addPiece(full, "...", ".#.")));
+        Check.due("5: domino", 60, full.placements(Scene.addPiece(full, "#", "#")));
+        Check.due("5: L of four", 160, full.placements(Scene.addPiece(full, "#..", "###")));
+        Check.due("5: Z of four", 80, full.placements(Scene.addPiece(full, "##", ".##")));
+        Check.due("5: box of four, one symmetry", 25, full.placements(Scene.addPiece(full, "....", "..##", "..##")));
         Check.due("5: a piece without squares", 0, full.placements(full.piece()));
-        ColourSums narrow = shapeOf("######");
-        Check.due("5: too high for the grid", 0, narrow.placements(addPiece(narrow, "##", "##")));
-        Check.due("5: turned to fit", 3, narrow.placements(addPiece(narrow, "#", "#", "#", "#")));
-        Check.due("5: squares apart", 3, narrow.placements(addPiece(narrow, "#..#")));
-        ColourSums shape = shapeOf("##.", ".##");
-        int domino = addPiece(shape, "##");
+        ColourSums narrow = Scene.shapeOf("######");
+        Check.due("5: too high for the grid", 0, narrow.placements(Scene.addPiece(narrow, "##", "##")));
+        Check.due("5: turned to fit", 3, narrow.placements(Scene.addPiece(narrow, "#", "#", "#", "#")));
+        Check.due("5: squares apart", 3, narrow.placements(Scene.addPiece(narrow, "#..#")));
+        ColourSums shape = Scene.shapeOf("##.", ".##");
+        int domino = Scene.addPiece(shape, "##");
         Check.due("5: within the shape", 3, shape.placements(domino));
         shape.cell(1, 0, false);
         Check.due("5: a cell goes", 1, shape.placements(domino));
@@ -192,12 +135,12 @@ public final class PromisesTest {
     }
 
     private static void promise6Placement() {
-        ColourSums sums = shapeOf("###", "###");
-        int domino = addPiece(sums, "##");
+        ColourSums sums = Scene.shapeOf("###", "###");
+        int domino = Scene.addPiece(sums, "##");
         // As bits: 3, 6, 9, 18, 24, 36, 48.
         String[] rising = {"0 1 ", "1 2 ", "0 3 ", "1 4 ", "3 4 ", "2 5 ", "4 5 "};
         for (int k = 0; k < rising.length; k++) {
-            Check.due("6: placement " + k, rising[k], placementOf(sums, domino, k));
+            Check.due("6: placement " + k, rising[k], Scene.placementOf(sums, domino, k));
         }
         for (int wrong : new int[] {-1, 7, 160, Integer.MAX_VALUE, Integer.MIN_VALUE}) {
             Check.due("6: k " + wrong, -1, sums.placement(domino, wrong, 0));
@@ -207,15 +150,15 @@ public final class PromisesTest {
         Check.due("6: i is the size", -1, sums.placement(domino, 0, 2));
         Check.dueThrow("6: the next piece", NO_INDEX, () -> sums.placement(1, 0, 0));
         Check.due("6: a piece without squares", -1, sums.placement(sums.piece(), 0, 0));
-        int l = addPiece(sums, "#", "###");
-        Check.due("6: first L", "0 1 2 3 ", placementOf(sums, l, 0));
-        Check.due("6: last L", "2 3 4 5 ", placementOf(sums, l, 3));
+        int l = Scene.addPiece(sums, "#", "###");
+        Check.due("6: first L", "0 1 2 3 ", Scene.placementOf(sums, l, 0));
+        Check.due("6: last L", "2 3 4 5 ", Scene.placementOf(sums, l, 3));
         sums.cell(2, 1, false);
         Check.due("6: five are left", 5, sums.placements(domino));
-        Check.due("6: the last of them", "3 4 ", placementOf(sums, domino, 4));
+        Check.due("6: the last of them", "3 4 ", Scene.placementOf(sums, domino, 4));
         Check.due("6: none behind it, though there was one", -1, sums.placement(domino, 5, 0));
-        ColourSums big = shapeOf("######", "######", "######", "######", "######", "######");
-        int one = addPiece(big, "#");
+        ColourSums big = Scene.shapeOf(Scene.FULL);
+        int one = Scene.addPiece(big, "#");
         Check.due("6: a cell over bit 31", 35, big.placement(one, 35, 0));
     }
 
@@ -224,35 +167,35 @@ public final class PromisesTest {
         Check.due("7: nothing adds up to an empty shape", true, sums.sizes());
         sums.cell(0, 0, true);
         Check.due("7: no piece", false, sums.sizes());
-        addPiece(sums, "###");
+        Scene.addPiece(sums, "###");
         sums.piece();
         Check.due("7: 3 and 0 for 1", false, sums.sizes());
-        addPiece(sums, "#.#", "..#", "#.#");
+        Scene.addPiece(sums, "#.#", "..#", "#.#");
         boolean[] due = {false, false, true, false, true, true, false, true, true, true, true};
         for (int size = 1; size <= due.length; size++) {
             sums.cell((size - 1) % 4, (size - 1) / 4, true);
             Check.due("7: 3 and 5 for " + size, due[size - 1], sums.sizes());
         }
-        ColourSums four = shapeOf("##", "##");
-        addPiece(four, "#..#", "...#", "#..#", "#...");
+        ColourSums four = Scene.shapeOf("##", "##");
+        Scene.addPiece(four, "#..#", "...#", "#..#", "#...");
         Check.due("7: 6 for 4", false, four.sizes());
-        addPiece(four, "####");
+        Scene.addPiece(four, "####");
         Check.due("7: 4 for 4, though it has no placement", true, four.sizes());
-        ColourSums ones = shapeOf("###");
-        addPiece(ones, "##");
+        ColourSums ones = Scene.shapeOf("###");
+        Scene.addPiece(ones, "##");
         Check.due("7: 2 for 3", false, ones.sizes());
-        addPiece(ones, "....", "...#");
+        Scene.addPiece(ones, "....", "...#");
         Check.due("7: 2 and 1 for 3", true, ones.sizes());
-        ColourSums full = shapeOf("######", "######", "######", "######", "######", "######");
-        addPiece(full, "###", "##");
+        ColourSums full = Scene.shapeOf(Scene.FULL);
+        Scene.addPiece(full, "###", "##");
         Check.due("7: 5 for 36", false, full.sizes());
-        addPiece(full, "###", "#.#", "#");
+        Scene.addPiece(full, "###", "#.#", "#");
         Check.due("7: 5 and 6 for 36", true, full.sizes());
     }
 
     private static void promise8Colour() {
-        ColourSums sums = shapeOf(".#####", "######", "######", "######", "######", "#####.");
-        addPiece(sums, "##");
+        ColourSums sums = Scene.shapeOf(".#####", "######", "######", "######", "######", "#####.");
+        Scene.addPiece(sums, "##");
         int[] primes = {2, 3, 5, 7, 11, 13};
         int[] due = {0, 1, 1, 1, 1, 1};
         for (int i = 0; i < primes.length; i++) {
@@ -262,44 +205,44 @@ public final class PromisesTest {
             Integer.MIN_VALUE}) {
             Check.due("8: " + n, -1, sums.colour(n));
         }
-        ColourSums covered = shapeOf("####", "####");
-        addPiece(covered, "##");
+        ColourSums covered = Scene.shapeOf("####", "####");
+        Scene.addPiece(covered, "##");
         for (int prime : primes) {
             Check.due("8: there is a cover, " + prime, 0, covered.colour(prime));
         }
         ColourSums empty = new ColourSums(3, 3);
         Check.due("8: the empty shape sums to 0", 0, empty.colour(2));
         Check.due("8: it has no text", -1, empty.text(0));
-        ColourSums before = shapeOf("###");
+        ColourSums before = Scene.shapeOf("###");
         before.colour(3);
-        String text = textOf(before);
+        String text = Scene.textOf(before);
         before.colour(4);
-        Check.due("8: a wrong n does nothing", text, textOf(before));
+        Check.due("8: a wrong n does nothing", text, Scene.textOf(before));
     }
 
     private static void promise8ColourIsLeast() {
-        ColourSums alone = shapeOf("###", "#.#");
+        ColourSums alone = Scene.shapeOf("###", "#.#");
         Check.due("8: no piece", 1, alone.colour(7));
-        Check.due("8: only the last cell weighs", "aaa;a.b;", textOf(alone));
-        addPiece(alone, "##");
+        Check.due("8: only the last cell weighs", "aaa;a.b;", Scene.textOf(alone));
+        Scene.addPiece(alone, "##");
         Check.due("8: dominoes", 1, alone.colour(7));
         // Along the strip of five by turns 1 and -1, which is 6.
-        Check.due("8: alternating", "gbg;b.b;", textOf(alone));
-        ColourSums three = shapeOf("####");
-        addPiece(three, "###");
+        Check.due("8: alternating", "gbg;b.b;", Scene.textOf(alone));
+        ColourSums three = Scene.shapeOf("####");
+        Scene.addPiece(three, "###");
         Check.due("8: bars of three over four", 1, three.colour(5));
         // a+b+c = 0, b+c+d = 0, a+b+c+d = 1: a = d = 1, b + c = 4, the least b is 0.
-        Check.due("8: least b", "baeb;", textOf(three));
+        Check.due("8: least b", "baeb;", Scene.textOf(three));
         three.colour(13);
-        Check.due("8: letters up to m", "bamb;", textOf(three));
+        Check.due("8: letters up to m", "bamb;", Scene.textOf(three));
         three.colour(2);
-        Check.due("8: modulo 2", "babb;", textOf(three));
+        Check.due("8: modulo 2", "babb;", Scene.textOf(three));
     }
 
     private static void promise9Weight() {
-        ColourSums sums = shapeOf("####", "...#");
+        ColourSums sums = Scene.shapeOf("####", "...#");
         Check.due("9: none looked for", -1, sums.weight(0, 0));
-        addPiece(sums, "###");
+        Scene.addPiece(sums, "###");
         Check.due("9: colour(3)", 1, sums.colour(3));
         // Bars lie on the upper row alone: a+b+c = 0, b+c+d = 0; the sum 1 needs d+e = 1: e may do it.
         int[] row = {0, 0, 0, 0};
@@ -319,10 +262,10 @@ public final class PromisesTest {
     }
 
     private static ColourSums coloured() {
-        ColourSums sums = shapeOf("###", "...");
-        addPiece(sums, "##");
+        ColourSums sums = Scene.shapeOf("###", "...");
+        Scene.addPiece(sums, "##");
         Check.due("9: found", 1, sums.colour(5));
-        Check.due("9: its text", "beb;...;", textOf(sums));
+        Check.due("9: its text", "beb;...;", Scene.textOf(sums));
         return sums;
     }
 
@@ -338,7 +281,7 @@ public final class PromisesTest {
         cellComes.cell(2, 1, false);
         dueNoColouring("a cell came and went", cellComes);
         Check.due("9: found anew", 1, cellComes.colour(5));
-        Check.due("9: found anew, text", "beb;...;", textOf(cellComes));
+        Check.due("9: found anew, text", "beb;...;", Scene.textOf(cellComes));
         ColourSums cellGoes = coloured();
         cellGoes.cell(2, 0, false);
         dueNoColouring("a cell went", cellGoes);
@@ -353,8 +296,8 @@ public final class PromisesTest {
     }
 
     private static void promise9WhatLeavesAColouring() {
-        ColourSums sums = shapeOf("###", "...");
-        addPiece(sums, "##");
+        ColourSums sums = Scene.shapeOf("###", "...");
+        Scene.addPiece(sums, "##");
         for (int p = 1; p < 6; p++) {
             sums.piece();
         }
@@ -375,38 +318,38 @@ public final class PromisesTest {
         } catch (IllegalArgumentException e) {
             Check.due("9: refused", true, true);
         }
-        Check.due("9: nothing was changed", "beb;...;", textOf(sums));
+        Check.due("9: nothing was changed", "beb;...;", Scene.textOf(sums));
         // Two corners of one colour are gone: the colours differ by 2, which is nothing modulo 2.
-        ColourSums corners = shapeOf(".###", "####", "####", "###.");
-        addPiece(corners, "##");
+        ColourSums corners = Scene.shapeOf(".###", "####", "####", "###.");
+        Scene.addPiece(corners, "##");
         Check.due("9: modulo 3 there is one", 1, corners.colour(3));
-        String text = textOf(corners);
+        String text = Scene.textOf(corners);
         Check.due("9: modulo 2 there is none", 0, corners.colour(2));
-        Check.due("9: the one found latest stays", text, textOf(corners));
+        Check.due("9: the one found latest stays", text, Scene.textOf(corners));
         Check.due("9: modulo 5 there is one", 1, corners.colour(5));
-        Check.due("9: that is found latest", false, text.equals(textOf(corners)));
+        Check.due("9: that is found latest", false, text.equals(Scene.textOf(corners)));
     }
 
     private static void promise10Text() {
-        ColourSums sums = shapeOf("##.", ".##", "...");
+        ColourSums sums = Scene.shapeOf("##.", ".##", "...");
         Check.due("10: none yet", -1, sums.text(0));
         sums.colour(13);
-        Check.due("10: whole", "aa.;.ab;...;", textOf(sums));
+        Check.due("10: whole", "aa.;.ab;...;", Scene.textOf(sums));
         Check.due("10: last byte", (int) ';', sums.text(11));
         for (int wrong : new int[] {-1, 12, 13, 42, Integer.MAX_VALUE, Integer.MIN_VALUE}) {
             Check.due("10: byte " + wrong, -1, sums.text(wrong));
         }
-        ColourSums one = shapeOf("#");
+        ColourSums one = Scene.shapeOf("#");
         one.colour(2);
-        Check.due("10: one cell", "b;", textOf(one));
+        Check.due("10: one cell", "b;", Scene.textOf(one));
         ColourSums wide = new ColourSums(6, 6);
         wide.cell(5, 5, true);
         wide.colour(11);
-        Check.due("10: 42 bytes", "......;......;......;......;......;.....b;", textOf(wide));
+        Check.due("10: 42 bytes", "......;......;......;......;......;.....b;", Scene.textOf(wide));
     }
 
     private static void promise11Own() {
-        ColourSums sums = shapeOf("#.", "##");
+        ColourSums sums = Scene.shapeOf("#.", "##");
         Check.due("11: 0 at first", 0, sums.sum());
         Check.due("11: 99", true, sums.own(0, 0, 99));
         Check.due("11: 99 again", true, sums.own(0, 0, 99));
@@ -433,7 +376,7 @@ public final class PromisesTest {
     }
 
     private static void promise12Sum() {
-        ColourSums sums = shapeOf("######", "######", "######", "######", "######", "######");
+        ColourSums sums = Scene.shapeOf(Scene.FULL);
         for (int c = 0; c < 36; c++) {
             sums.own(c % 6, c / 6, 99);
         }
@@ -451,9 +394,9 @@ public final class PromisesTest {
     }
 
     private static void promise13Bad() {
-        ColourSums sums = shapeOf("####");
+        ColourSums sums = Scene.shapeOf("####");
         Check.due("13: no piece", 0, sums.bad(2));
-        addPiece(sums, "##");
+        Scene.addPiece(sums, "##");
         sums.own(0, 0, 1);
         sums.own(1, 0, 2);
         sums.own(2, 0, -5);
@@ -465,9 +408,9 @@ public final class PromisesTest {
         for (int wrong : new int[] {1, 0, -1, -3, Integer.MIN_VALUE}) {
             Check.due("13: n " + wrong, -1, sums.bad(wrong));
         }
-        addPiece(sums, "#", "#");
+        Scene.addPiece(sums, "#", "#");
         Check.due("13: the same piece twice", 4, sums.bad(2));
-        addPiece(sums, "#");
+        Scene.addPiece(sums, "#");
         Check.due("13: and single cells", 7, sums.bad(2));
         sums.piece();
         Check.due("13: a piece without squares", 7, sums.bad(2));
@@ -476,8 +419,8 @@ public final class PromisesTest {
     }
 
     private static void promise14Proves() {
-        ColourSums sums = shapeOf("###", "##.");
-        addPiece(sums, "##");
+        ColourSums sums = Scene.shapeOf("###", "##.");
+        Scene.addPiece(sums, "##");
         Check.due("14: all 0", false, sums.proves(2));
         int[] weights = {1, -1, 1, -1, 1};
         for (int c = 0; c < 5; c++) {
@@ -496,7 +439,7 @@ public final class PromisesTest {
         sums.cell(2, 1, true);
         sums.own(2, 1, -1);
         Check.due("14: the shape sums to 0", false, sums.proves(7));
-        ColourSums single = shapeOf("#");
+        ColourSums single = Scene.shapeOf("#");
         single.own(0, 0, -6);
         Check.due("14: no piece, -6 modulo 4", true, single.proves(4));
         Check.due("14: no piece, -6 modulo 3", false, single.proves(3));
@@ -505,29 +448,29 @@ public final class PromisesTest {
 
     private static void promise15Border() {
         ColourSums sums = new ColourSums(3, 3);
-        Check.due("15: the empty shape", "", wordOf(sums));
+        Check.due("15: the empty shape", "", Scene.wordOf(sums));
         sums.cell(2, 2, true);
-        Check.due("15: one cell", "0123", wordOf(sums));
+        Check.due("15: one cell", "0123", Scene.wordOf(sums));
         sums.cell(2, 1, true);
-        Check.due("15: two cells", "011233", wordOf(sums));
-        Check.due("15: a turn to the left", "0001221233", wordOf(shapeOf("###", "#..")));
-        Check.due("15: wider below", "011011223333", wordOf(shapeOf("#.", "#.", "##", "##")));
-        Check.due("15: begins at the least cell", "01122303", wordOf(shapeOf(".#", "##")));
-        Check.due("15: a hole is not gone round", "000111222333", wordOf(shapeOf("###", "#.#", "###")));
-        Check.due("15: another part is not gone round", "0123", wordOf(shapeOf("#.#")));
-        ColourSums full = shapeOf("######", "######", "######", "######", "######", "######");
-        Check.due("15: 24 sides", "000000111111222222333333", wordOf(full));
+        Check.due("15: two cells", "011233", Scene.wordOf(sums));
+        Check.due("15: a turn to the left", "0001221233", Scene.wordOf(Scene.shapeOf("###", "#..")));
+        Check.due("15: wider below", "011011223333", Scene.wordOf(Scene.shapeOf("#.", "#.", "##", "##")));
+        Check.due("15: begins at the least cell", "01122303", Scene.wordOf(Scene.shapeOf(".#", "##")));
+        Check.due("15: a hole is not gone round", "000111222333", Scene.wordOf(Scene.shapeOf("###", "#.#", "###")));
+        Check.due("15: another part is not gone round", "0123", Scene.wordOf(Scene.shapeOf("#.#")));
+        ColourSums full = Scene.shapeOf(Scene.FULL);
+        Check.due("15: 24 sides", "000000111111222222333333", Scene.wordOf(full));
         for (int wrong : new int[] {-1, 24, 84, 1000, Integer.MAX_VALUE, Integer.MIN_VALUE}) {
             Check.due("15: letter " + wrong, -1, full.border(wrong));
         }
         full.cell(0, 0, false);
-        Check.due("15: a corner goes", "000001111112222223333303", wordOf(full));
+        Check.due("15: a corner goes", "000001111112222223333303", Scene.wordOf(full));
     }
 
     private static void promise15BorderAtACrossing() {
-        Check.due("15: right at a crossing", "0123", wordOf(shapeOf("#.", ".#")));
+        Check.due("15: right at a crossing", "0123", Scene.wordOf(Scene.shapeOf("#.", ".#")));
         Check.due("15: right at a crossing, into the hole", "0011122233010323",
-                wordOf(shapeOf(".##", "#.#", "###")));
+                Scene.wordOf(Scene.shapeOf(".##", "#.#", "###")));
     }
 
     private static void promise16Runs() {
@@ -541,16 +484,16 @@ public final class PromisesTest {
             Check.due("16: m " + wrong, -1, sums.runs(wrong));
         }
         // 000 1 222 3: modulo 3 the bars go, then 1 and 3 are one run, that goes too.
-        ColourSums bar = shapeOf("###");
+        ColourSums bar = Scene.shapeOf("###");
         Check.due("16: a bar of 3 modulo 3", 0, bar.runs(3));
         Check.due("16: a bar of 3 modulo 2", 4, bar.runs(2));
         Check.due("16: a bar of 3 modulo 4", 4, bar.runs(4));
         // 000 1 2 1 22 33 modulo 3: the first run left and the last are of one axis, but no neighbours.
-        Check.due("16: the end is no neighbour of the beginning", 5, shapeOf("###", "##.").runs(3));
+        Check.due("16: the end is no neighbour of the beginning", 5, Scene.shapeOf("###", "##.").runs(3));
         bar.cell(2, 0, false);
         Check.due("16: after a change, modulo 3", 4, bar.runs(3));
         Check.due("16: after a change, modulo 2", 0, bar.runs(2));
-        ColourSums full = shapeOf("######", "######", "######", "######", "######", "######");
+        ColourSums full = Scene.shapeOf(Scene.FULL);
         int[] due = {0, 0, 4, 4, 0, 4, 4, 4};
         for (int m = 2; m <= 9; m++) {
             Check.due("16: 6 by 6 modulo " + m, due[m - 2], full.runs(m));
@@ -558,12 +501,12 @@ public final class PromisesTest {
     }
 
     private static void promise17Run() {
-        ColourSums one = shapeOf("#");
-        Check.due("17: one cell modulo 2", "2 3 2 3 ", runsOf(one, 2));
-        Check.due("17: one cell modulo 9", "2 3 16 17 ", runsOf(one, 9));
-        Check.due("17: a bar of 3 modulo 4", "6 3 2 7 ", runsOf(shapeOf("###"), 4));
-        Check.due("17: modulo 3, open at the ends", "3 4 3 2 3 ", runsOf(shapeOf("###", "##."), 3));
-        Check.due("17: modulo 2, runs that met", "2 3 2 3 ", runsOf(shapeOf("###", "##."), 2));
+        ColourSums one = Scene.shapeOf("#");
+        Check.due("17: one cell modulo 2", "2 3 2 3 ", Scene.runsOf(one, 2));
+        Check.due("17: one cell modulo 9", "2 3 16 17 ", Scene.runsOf(one, 9));
+        Check.due("17: a bar of 3 modulo 4", "6 3 2 7 ", Scene.runsOf(Scene.shapeOf("###"), 4));
+        Check.due("17: modulo 3, open at the ends", "3 4 3 2 3 ", Scene.runsOf(Scene.shapeOf("###", "##."), 3));
+        Check.due("17: modulo 2, runs that met", "2 3 2 3 ", Scene.runsOf(Scene.shapeOf("###", "##."), 2));
         for (int wrong : new int[] {-1, 4, 84, Integer.MAX_VALUE, Integer.MIN_VALUE}) {
             Check.due("17: k " + wrong, -1, one.run(5, wrong));
         }
